@@ -292,7 +292,7 @@ public final class ModelTest {
     private final int faults;
     private final int cashing;
     private final boolean isClimbing;
-    private static final int[] rounds = new int[3];
+    private static final int[] rounds = new int[4];
 
     private ModelTest(long seed) {
         random = new Random(seed);
@@ -311,12 +311,12 @@ public final class ModelTest {
             }
         }
         System.out.println("the model agrees in " + RUNS + " runs: " + rounds[0] + " rounds with payments, "
-            + rounds[1] + " of none, most payments in a run " + rounds[2]);
+            + rounds[1] + " of none, most payments in a run " + rounds[2] + ", " + rounds[3] + " refused after the 76th payment");
     }
 
     private boolean isRight() {
         for (int call = 0; call < CALLS; call++) {
-            boolean isAgreed = random.nextInt(100) < 55 ? command() : question();
+            boolean isAgreed = random.nextInt(100) < (isClimbing ? 80 : 55) ? command() : question();
             if (!isAgreed) {
                 told.forEach(System.out::println);
                 return false;
@@ -367,6 +367,8 @@ public final class ModelTest {
         int dice = random.nextInt(100);
         if (isClimbing && told.size() < 16) return climbingSetting(told.size() % 6 - 1);
         if (told.size() < 20 || dice < 4) return setting();
+        if (isClimbing && hasOpen() && random.nextInt(10) > 0) return cashing();
+        if (isClimbing && random.nextInt(3) > 0) return entering();
         if (dice < 35) return entering();
         if (dice < 41) return passing();
         if (dice < 60) return changing();
@@ -388,7 +390,7 @@ public final class ModelTest {
 
     private boolean entering() {
         int person = near(0, 29);
-        int grade = isClimbing ? Math.min(4, told.size() / 200) : near(0, 4);
+        int grade = isClimbing ? Math.min(4, model.payments.size() / 22) : near(0, 4);
         boolean isFault = random.nextInt(100) < faults;
         int days = near(0, random.nextInt(2) == 0 ? 10 : 100);
         return agreed("claim(" + person + ", " + grade + ", " + isFault + ", " + days + ")",
@@ -421,7 +423,12 @@ public final class ModelTest {
         int least = least();
         int want = model.round(least);
         if (want >= 0) rounds[want > 0 ? 0 : 1]++;
+        if (want == STATE && !hasOpen() && model.payments.size() > 76) rounds[3]++;
         return agreed("round(" + least + ")", want, () -> fund.round(least));
+    }
+
+    private boolean hasOpen() {
+        return model.payments.stream().anyMatch(p -> p.state == SettlementFund.OPEN);
     }
 
     private boolean cashing() {

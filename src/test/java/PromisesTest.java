@@ -41,8 +41,10 @@ public final class PromisesTest {
         paymentState();
         shareOf();
         shareOfWithLeast();
+        shareOfThoseThatReachTheirRooms();
         shareOfGreatNumbers();
         shareBySorting();
+        shareBySortingOfSameShares();
         System.out.println(wrong == 0 ? "all promises are kept" : wrong + " answers are not as due");
         if (wrong != 0) {
             System.exit(1);
@@ -138,6 +140,8 @@ public final class PromisesTest {
         }
         x.setFund(100, 0, 0);
         dueShares(x, 0, 20, 20, 20, 20, 20);
+        x.setGrade(4, 6, 1000000);
+        dueShares(x, 0, 10, 10, 10, 10, 60);
         SettlementFund other = new SettlementFund();
         due("claims of another", other.claims(), 0);
     }
@@ -413,20 +417,20 @@ public final class PromisesTest {
         SettlementFund x = fundOf(100, 3);
         x.setGrade(0, 1, 40);
         due("round", x.round(0), 3);
-        x.cash(0);
+        x.cash(1);
         x.cash(2);
         x.pass(31);
         x.claim(3, 0, false, 0);
-        due("room of one with a void payment", x.room(1), 40);
-        due("its share", x.shareOf(1, 0), 0);
+        due("room of one with a void payment", x.room(0), 40);
+        due("its share", x.shareOf(0, 0), 0);
         due("money that nobody cashed comes again", x.round(0), 3);
-        int[] to = {0, 1, 2, 0, 2, 3};
-        int[] amount = {34, 33, 33, 6, 7, 20};
+        int[] to = {0, 1, 2, 1, 2, 3};
+        int[] amount = {34, 33, 33, 7, 7, 20};
         for (int payment = 0; payment < 6; payment++) {
             due("paymentTo", x.paymentTo(payment), to[payment]);
             due("amountOf", x.amountOf(payment), amount[payment]);
         }
-        due("paidTo", x.paidTo(0), 40);
+        due("paidTo", x.paidTo(1), 40);
         due("moneyLeft", x.moneyLeft(), 0);
     }
 
@@ -758,6 +762,26 @@ public final class PromisesTest {
         dueShares(capped, 67, 0, 0);
     }
 
+    private static void shareOfThoseThatReachTheirRooms() {
+        promise = "26 shareOf of those that reach their rooms";
+        SettlementFund x = new SettlementFund();
+        x.setGrade(0, 2, 5);
+        x.setGrade(1, 1, 100);
+        x.setFund(10, 0, 0);
+        x.claim(0, 0, false, 0);
+        x.claim(1, 1, false, 0);
+        x.claim(2, 1, false, 0);
+        dueShares(x, 0, 5, 3, 2);
+        SettlementFund looks = new SettlementFund();
+        int[] caps = {90, 35, 28, 10, 1000};
+        for (int grade = 0; grade < 5; grade++) {
+            looks.setGrade(grade, 1, caps[grade]);
+            looks.claim(grade, grade, false, 0);
+        }
+        looks.setFund(125, 0, 0);
+        dueShares(looks, 0, 29, 29, 28, 10, 29);
+    }
+
     private static void shareOfGreatNumbers() {
         promise = "26 shareOf of great numbers";
         SettlementFund x = new SettlementFund();
@@ -799,5 +823,27 @@ public final class PromisesTest {
         dueThrows(x, "claim 3, least -1", INDEX, () -> x.shareBySorting(3, -1));
         dueThrows(x, "least -1", ARGUMENT, () -> x.shareBySorting(0, -1));
         dueThrows(x, "least 100001", ARGUMENT, () -> x.shareBySorting(0, 100001));
+    }
+
+    private static void shareBySortingOfSameShares() {
+        promise = "27 shareBySorting of same shares";
+        SettlementFund x = new SettlementFund();
+        x.setGrade(0, 1, 20);
+        x.setGrade(1, 2, 20);
+        x.setGrade(2, 1, 60);
+        x.setFund(100, 0, 0);
+        x.claim(0, 0, false, 0);
+        x.claim(1, 1, false, 0);
+        x.claim(2, 2, false, 0);
+        dueShares(x, 20, 20, 20, 60);
+        dueShares(x, 21, 0, 0, 60);
+        x.setFund(41, 0, 0);
+        dueShares(x, 0, 11, 20, 10);
+        dueShares(x, 11, 20, 20, 0);
+        x.claim(3, 1, false, 0);
+        x.claim(4, 0, false, 0);
+        x.setFund(80, 0, 0);
+        dueShares(x, 15, 20, 20, 20, 20, 0);
+        dueShares(x, 21, 0, 0, 60, 0, 0);
     }
 }
