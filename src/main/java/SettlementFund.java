@@ -91,7 +91,7 @@ public final class SettlementFund {
             claimBook.join(known, grade, isFault);
             return known;
         }
-        if (claimBook.size >= MOST_CLAIMS) {
+        if (!claimBook.hasPlace()) {
             throw new IllegalStateException("there is no place for another claim");
         }
         return claimBook.enter(person, grade, isFault ? FAULTY : GOOD, day + days);
@@ -150,7 +150,7 @@ public final class SettlementFund {
         }
         shareMoneyLeft(least, false);
         int made = sharing.gainers();
-        if (made > MOST_PAYMENTS - paymentBook.size) {
+        if (!paymentBook.hasPlacesFor(made)) {
             throw new IllegalStateException("there would be too many payments");
         }
         makePayments();
@@ -335,7 +335,11 @@ public final class SettlementFund {
             return claim >= 0 && claim < size;
         }
 
-        /** Needs a place for one more claim. */
+        boolean hasPlace() {
+            return size < MOST_CLAIMS;
+        }
+
+        /** To be called only when there is a place. */
         int enter(int person, int itsGrade, int itsState, int itsDeadline) {
             int claim = size;
             ofPerson[person] = claim;
@@ -384,13 +388,18 @@ public final class SettlementFund {
             return payment >= 0 && payment < size;
         }
 
-        /** Needs a place for one more payment. */
+        boolean hasPlacesFor(int more) {
+            return more <= MOST_PAYMENTS - size;
+        }
+
         void add(int itsClaim, int itsAmount, int today) {
-            claim[size] = itsClaim;
-            amount[size] = itsAmount;
-            state[size] = OPEN;
-            dayMade[size] = today;
-            size++;
+            if (hasPlacesFor(1)) {
+                claim[size] = itsClaim;
+                amount[size] = itsAmount;
+                state[size] = OPEN;
+                dayMade[size] = today;
+                size++;
+            }
         }
 
         void voidLate(int today) {
@@ -515,24 +524,20 @@ public final class SettlementFund {
             shareRestByPoints();
         }
 
+        /** Each look keeps the money and the points of its start: who is filled in it changes only the next. */
         private void fillInLooks() {
-            boolean wasSomeFilled = true;
-            for (int look = 0; wasSomeFilled && look <= size; look++) {
-                wasSomeFilled = fillInOneLook();
-            }
-        }
-
-        private boolean fillInOneLook() {
-            long money = restMoney;
-            long allPoints = restPoints;
-            boolean isSomeFilled = false;
-            for (int i = 0; i < size; i++) {
-                if (!isFull[i] && reachesRoom(i, money, allPoints)) {
-                    fill(i);
-                    isSomeFilled = true;
+            boolean isSomeFilled = true;
+            for (int look = 0; isSomeFilled && look <= size; look++) {
+                long money = restMoney;
+                long allPoints = restPoints;
+                isSomeFilled = false;
+                for (int i = 0; i < size; i++) {
+                    if (!isFull[i] && reachesRoom(i, money, allPoints)) {
+                        fill(i);
+                        isSomeFilled = true;
+                    }
                 }
             }
-            return isSomeFilled;
         }
 
         /** Each one that is filled leaves the others no less per point: the first that falls short ends it. */
