@@ -4,12 +4,13 @@ import java.util.List;
 import java.util.Random;
 
 /**
- * Runs of some 512 commands and questions against a model that follows the document's words one by one: days pass
+ * Runs of up to 512 calls against a model that follows the document's words one by one: days pass
  * singly, payments are objects, shares are found with BigInteger. The seeds are fixed.
  */
 public final class ModelTest {
     private static final int RUNS = 6000;
     private static final int CALLS = 512;
+    private static final int MOST_CALLS_AT_ONCE = 5;
     private static final int INDEX = -1001, ARGUMENT = -1002, STATE = -1003;
 
     private static final class Claim {
@@ -315,8 +316,8 @@ public final class ModelTest {
     }
 
     private boolean isRight() {
-        for (int call = 0; call < CALLS; call++) {
-            boolean isAgreed = random.nextInt(100) < (isClimbing ? 80 : 55) ? command() : question();
+        while (told.size() <= CALLS - MOST_CALLS_AT_ONCE) {
+            boolean isAgreed = random.nextInt(100) < (isClimbing ? 95 : 70) ? command() : question();
             if (!isAgreed) {
                 told.forEach(System.out::println);
                 return false;
@@ -389,12 +390,22 @@ public final class ModelTest {
     }
 
     private boolean entering() {
-        int person = near(0, 29);
         int grade = isClimbing ? Math.min(4, model.payments.size() / 22) : near(0, 4);
+        int person = isClimbing && random.nextInt(10) > 0 ? personBelow(grade) : near(0, 29);
         boolean isFault = random.nextInt(100) < faults;
         int days = near(0, random.nextInt(2) == 0 ? 10 : 100);
         return agreed("claim(" + person + ", " + grade + ", " + isFault + ", " + days + ")",
             model.claim(person, grade, isFault, days), () -> fund.claim(person, grade, isFault, days));
+    }
+
+    private int personBelow(int grade) {
+        for (int person = 0; person < 30; person++) {
+            Claim c = model.of(person);
+            if (c == null ? model.claims.size() < 24 : c.grade < grade) {
+                return person;
+            }
+        }
+        return near(0, 29);
     }
 
     private boolean passing() {
