@@ -52,6 +52,11 @@ public final class FaceTest {
         methods();
         constants();
         constructors();
+        limits(SettlementFund.class);
+        for (Class<?> inside : SettlementFund.class.getDeclaredClasses()) {
+            due(inside + " is hidden", inside.getModifiers() & (Modifier.PUBLIC | Modifier.PROTECTED), 0);
+            limits(inside);
+        }
         source();
         System.out.println(wrong == 0 ? "the face is the document's" : wrong + " faults of the face");
         if (wrong != 0) {
@@ -114,6 +119,20 @@ public final class FaceTest {
         due("constructors", all.length, 1);
         due("constructor", all[0].toString(), "public SettlementFund()");
         due("class", SettlementFund.class.getModifiers(), Modifier.PUBLIC | Modifier.FINAL);
+    }
+
+    /** What LANGUAGE.md's rules 5 and 11 say of fields and parameters. */
+    private static void limits(Class<?> type) {
+        int fields = 0;
+        for (Field f : type.getDeclaredFields()) {
+            boolean isStatic = Modifier.isStatic(f.getModifiers());
+            due(f + " is final if it is static", !isStatic || Modifier.isFinal(f.getModifiers()), true);
+            fields += isStatic ? 0 : 1;
+        }
+        due(type + " has at most 20 fields", fields <= 20, true);
+        for (Method m : type.getDeclaredMethods()) {
+            due(m + " has at most 7 parameters", m.getParameterCount() <= 7, true);
+        }
     }
 
     private static void source() throws IOException {
